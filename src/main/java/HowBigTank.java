@@ -600,7 +600,7 @@ public final class HowBigTank {
 
         private void takeYear() {
             for (int m = 0; m < MONTHS && fits; m++) {
-                found[m] = takeNumber(0, 9, 1);
+                found[m] = takeNumber(0, 9);
             }
         }
 
@@ -627,19 +627,15 @@ public final class HowBigTank {
             return isDigit ? signs[at] - '0' : NONE;
         }
 
+        /** Where a number can't go on, what is to follow it finds the fault. */
         private int takeNumber(int least, int most) {
-            return takeNumber(least, most, 3);
-        }
-
-        /** A number of so many digits at most; where it can't go on, what follows finds the fault. */
-        private int takeNumber(int least, int most, int digits) {
             int v = fits ? digitAhead() : NONE;
             if (v < least || v > most) {
                 fits = false;
                 return 0;
             }
             at++;
-            for (int i = 1; i < digits && v > 0; i++) {
+            for (int digit = 1; digit < 3 && v > 0; digit++) {
                 int d = digitAhead();
                 if (d == NONE || 10 * v + d > most) {
                     break;
@@ -749,7 +745,7 @@ public final class HowBigTank {
         final int[] numbers = new int[NUMBERS];
         final Years years = new Years();
         final int[] readings = new int[MONTHS];
-        // The house it was kept of, as the how-manieth that was read; 0 if none was kept.
+        // How many houses had been read when it was kept; 0 if none was kept.
         int ofHouse;
     }
 
@@ -1147,7 +1143,8 @@ public final class HowBigTank {
         int bestHedge() {
             tried.kind = HEDGE;
             tried.n = 0;
-            long least = costOfAllWays(tried);
+            layOut(tried, 0, house.numbers[SIZE]);
+            long least = costAsLaidOut();
             int best = 0;
             for (int n = 1; n <= house.numbers[SIZE]; n++) {
                 tried.n = n;

@@ -221,6 +221,26 @@ public final class Promises {
         due("what is wanted", y.month(0, 0, 11, 6), 2);
     }
 
+    private static HowBigTank ruled(String house, String year, int kind, int n) {
+        HowBigTank x = of(house, year);
+        due("a rule", x.rule(kind, n), 0);
+        return x;
+    }
+
+    private static void kinds() {
+        due("a HEDGE at its n", ruled("a1s4l0w0;u4h0c1", NO_RAIN, 1, 4).month(0, 0, 0, 4), 4);
+        due("a HEDGE below it", ruled("a1s4l0w0;u4h0c1", NO_RAIN, 1, 5).month(0, 0, 0, 4), 2);
+        due("half is rounded down", ruled("a1s4l0w0;u3h0c1", NO_RAIN, 1, 5).month(0, 0, 0, 4), 1);
+        due("half of HOT, too", ruled("a1s99l0w0;u3h4c1", NO_RAIN, 1, 200).month(0, 0, 5, 4), 3);
+        due("a WELL at its n", ruled("a1s9l0w0p1q1;u4h0c1", NO_RAIN, 4, 5).month(0, 0, 1, 3), 0);
+        due("a WELL below it", ruled("a1s9l0w0p1q1;u4h0c1", NO_RAIN, 4, 6).month(0, 0, 1, 3), 1);
+        HowBigTank like = ruled("a1s5l0w0;u2h0c5;u2h0c9;u2h0c5", NO_RAIN, 2, 0);
+        due("of like worth the least", like.run(0, 10), 22);
+        due("the greatest worth", like.run(0, 11), 22);
+        due("the last", like.run(0, 12), 23);
+        due("hot from month 5", ruled("a1s0l0w0;u1h2c1", NO_RAIN, 0, 0).run(0, 2), 9 + 3 * 3);
+    }
+
     private static void rule() {
         HowBigTank x = new HowBigTank();
         for (int kind = 0; kind <= 4; kind++) due("kind " + kind, x.rule(kind, 0), kind);
@@ -409,6 +429,10 @@ public final class Promises {
         HowBigTank z = of("a1s5l0w0;u15h0c1", NO_RAIN);
         due("180", z.never(0), 180);
         due("the last month", z.never(2), 11);
+        HowBigTank full = ruled("a1s5l0w0k2;u14h3c1", "000001000000", 0, 0);
+        due("200", full.never(0), 200);
+        due("for the last month", full.never(2), 11);
+        due("200 by the cost", full.cheapest(0, 0, 0), 200);
         HowBigTank big = of("a1s5l0w0k2p5q0;u14h2c1", NO_RAIN);
         due("198 and the leak", big.never(0), 14 * 12 + 6 + 24);
         big.change(4, 3);
@@ -529,6 +553,22 @@ public final class Promises {
         due("part 2", x.mean(0, 2), OUTSIDE);
         due("part -1", x.mean(0, -1), OUTSIDE);
         due("rule 1", x.mean(1, 0), UNKNOWN);
+        HowBigTank one = of("a2s9l1w2k1p2q3;u2h3c4;u3h0c9", WETTISH);
+        one.rule(0, 0);
+        one.rule(1, 6);
+        one.rule(2, 0);
+        one.rule(4, 4);
+        one.rule(3, 0);
+        due("one year is as its run", one.mean(0, 0), 404);
+        for (int r = 1; r < 5; r++) due("rule " + r + ", too", one.mean(r, 0), one.run(r, 2));
+        put(one, WETTISH);
+        one.year();
+        due("two alike are as one", one.mean(0, 0), 404);
+        due("of one", one.mean(0, 1), 1);
+        HowBigTank most = of("a20s200l0w0;u15h9c9;u15h9c9;u15h9c9", NO_RAIN);
+        for (int kind = 0; kind < 5; kind++) most.rule(kind, 0);
+        for (int r = 0; r < 5; r++) due("of greatest numbers, kind " + r, most.mean(r, 0), 9 * (9 * 45 + 3 * 72 - 200));
+        due("all that is wanted", most.wise(5, 200, true, 1), 72);
         HowBigTank y = of("a1s1l0w0;u1h0c1", "100000000000", "010000000000", NO_RAIN);
         y.rule(0, 0);
         due("month 1 rains in one of three", y.mean(0, 0), 32);
@@ -572,6 +612,19 @@ public final class Promises {
         due("with rain to come that is not washed", y.wise(10, 2, true, 1), 2);
         due("with rain to come that is", y.wise(10, 2, false, 1), 1);
         due("without a house", new HowBigTank().wise(0, 0, true, 0), STATE);
+        x.change(5, 0);
+        x.image();
+        due("one for the last month again", x.wise(10, 2, false, 1), 1);
+        put(x, ALL_ONES);
+        x.year();
+        x.change(0, 20);
+        x.change(5, 1);
+        due("with a pump", x.wise(6, 1, false, 0), 1);
+        x.restore();
+        due("without", x.wise(6, 1, false, 0), 0);
+        put(x, "a1s2l0w0;u1h0c1;u1h0c1");
+        x.house();
+        due("another house", x.wise(10, 2, false, 1), 2);
     }
 
     private static void hedge() {
@@ -592,6 +645,9 @@ public final class Promises {
         HowBigTank u = of("a1s6l0w0;u2h0c1;u2h0c9", NO_RAIN);
         // 6, full to 2; then 2, 0: 18; halved below 3: 1, 1: 10.
         due("the least that halves 2", u.hedge(), 3);
+        HowBigTank v = of("a1s4l0w0k1;u3h0c1;u2h0c9", NO_RAIN);
+        // Behind the leak 3: full 3, 0: 18; halved below 4: 1, 1: 11.
+        due("n up to the size", v.hedge(), 4);
         due("the size is the most", u.change(1, 3), 6);
         due("3 is not below 3", u.hedge(), 0);
     }
@@ -666,6 +722,12 @@ public final class Promises {
         x.change(0, 7);
         due("it is", x.restore(), 1);
         due("and not the one ahead", x.rain(0, 0), 1);
+        put(x, NO_RAIN);
+        x.year();
+        due("two", x.image(), 2);
+        put(x, "a1s1l1w1;u1h1c1");
+        x.house();
+        due("of this house none", x.restore(), STATE);
     }
 
     private static void restore() {
@@ -772,7 +834,10 @@ public final class Promises {
             case 5 -> house();
             case 6 -> year();
             case 7 -> tell();
-            case 8 -> rule();
+            case 8 -> {
+                rule();
+                kinds();
+            }
             case 9 -> as();
             case 10 -> houseTold();
             case 11 -> change();
