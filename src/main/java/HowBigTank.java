@@ -460,6 +460,14 @@ public final class HowBigTank {
         return 2 * level + (rained ? 1 : 0);
     }
 
+    /** Steps 1 and 2 of a month. */
+    private static int stateBehindLeak(House house, int state, int rain) {
+        int size = house.numbers[SIZE];
+        int level = (state >> 1) + house.comes[10 * (state & 1) + rain];
+        level = (level > size ? size : level) - house.numbers[LEAK];
+        return (level < 0 ? 0 : 2 * level) + (rain > 0 ? 1 : 0);
+    }
+
     private static boolean isNoMonth(int month) {
         return month < 0 || month >= MONTHS;
     }
@@ -1094,13 +1102,6 @@ public final class HowBigTank {
         }
     }
 
-    private static int stateBehindLeak(House house, int state, int rain) {
-        int size = house.numbers[SIZE];
-        int level = (state >> 1) + house.comes[10 * (state & 1) + rain];
-        level = (level > size ? size : level) - house.numbers[LEAK];
-        return (level < 0 ? 0 : 2 * level) + (rain > 0 ? 1 : 0);
-    }
-
     /** A year drawn: in how many ways each state is come to. */
     private static final class Drawn {
         final House house;
@@ -1192,7 +1193,6 @@ public final class HowBigTank {
             return cost;
         }
 
-        /** Steps 1 and 2 of a month. */
         private void letRain(int month) {
             Arrays.fill(behindLeak, 0L);
             int states = 2 * (house.numbers[SIZE] + 1);

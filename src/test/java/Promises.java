@@ -367,6 +367,10 @@ public final class Promises {
         for (int what : new int[] {-1, 7, 9, 13, LOW, HIGH}) due("what", x.run(0, what), OUTSIDE);
         due("no such rule", x.run(4, 0), UNKNOWN);
         due("rule -1", x.run(-1, 0), UNKNOWN);
+        HowBigTank best = ruled("a1s2l0w0p1q1;u1h0c1;u1h0c9", NO_RAIN, 3, 0);
+        due("a BEST alone", best.run(0, 2), 22);
+        best.change(5, 0);
+        due("a BEST without a pump", best.run(0, 2), 10 * 10 + 2);
         HowBigTank y = of("a1s2l0w1;u1h0c1", NO_RAIN, "200000000000");
         y.rule(0, 0);
         due("a year goes on from the one ahead: wash", y.month(0, 1, 0, 0), 1);
@@ -481,6 +485,7 @@ public final class Promises {
         due("share, too", x.share(5, 5, 0), STATE);
         due("OUTSIDE ahead of it", x.cheapest(0, 100, 0), OUTSIDE);
         due("20", x.count(6), 20);
+        due("no more area", ruled("a1s5l0w0;u1h0c9", "000000100000", 0, 0).cheapest(0, 2, 1), 22);
     }
 
     private static void share() {
