@@ -8,8 +8,8 @@ import java.util.regex.Pattern;
 /** What LANGUAGE.md rules out, as far as a search of the text, without its comments, can find it. */
 public final class Language {
     private static final String[] OUT = {
-        "\\b(throw|throws|try|catch|finally|synchronized|assert|instanceof|yield|package)\\b",
-        "->", "::", "\"", "\\bExact\\b|Exact\\(", "\\bSystem\\.(?!arraycopy)", "\\b(Object|Random|Thread|Set|Map|HashMap)\\b",
+        "\\b(throw|throws|try|catch|finally|synchronized|assert|yield|package)\\b",
+        "->", "::", "\\bExact\\b|Exact\\(", "\\bSystem\\.(?!arraycopy)", "\\b(Object|Random|Thread|Set|Map|HashMap)\\b",
         "\\bpublic (?!final class HowBigTank|static final int NONE|HowBigTank\\(\\)|(int|long) \\w+\\()",
         "\\bprotected\\b", "^import (?!java\\.util\\.Arrays;)", "\\bwhile \\(true", "for \\(;;", "\\b(equals|hashCode|toString)\\b"};
     private static final List<String> FACE = List.of("letters", "blank", "fault", "house", "year", "tell", "rule", "as",
