@@ -10,6 +10,8 @@ public final class HowBigTank {
     // A tank's state, a level and whether it rained, is told by one number: twice the level, and 1 if it rained.
     private static final int STATES = 2 * (MOST_SIZE + 1);
     private static final int MOST_WANTED = 72;
+    private static final int ABOVE_ANY_TOTAL = 1 << 30;
+    private static final long ABOVE_ANY_COST = 1L << 60;
     private static final int ALL = 0, HEDGE = 1, FIRST = 2, BEST = 3, WELL = 4, TOLD = 5;
     private static final int AREA = 0, SIZE = 1, LOSS = 2, WASH = 3, LEAK = 4, PUMP = 5, PRICE = 6, NUMBERS = 7;
     private static final int[] LEAST = {1, 0, 0, 0, 0, 0, 0};
@@ -958,7 +960,7 @@ public final class HowBigTank {
 
         /** As a cost is never below 0, what costs as much without it is not looked at. */
         void search(Rule rule, int price, int roof, int mostMore) {
-            bestTotal = Integer.MAX_VALUE;
+            bestTotal = ABOVE_ANY_TOTAL;
             for (int more = 0; more <= mostMore; more++) {
                 for (int size = 0; size <= MOST_SIZE; size++) {
                     int bought = price * size + roof * more;
@@ -1055,7 +1057,7 @@ public final class HowBigTank {
             int size = house.numbers[SIZE];
             for (int level = 0; level <= size; level++) {
                 int most = Math.min(level, wanted);
-                long least = Long.MAX_VALUE;
+                long least = ABOVE_ANY_COST;
                 int chosen = 0;
                 for (int given = 0; given <= most; given++) {
                     long cost = costOfGiven[given] + atEnd[2 * (level - given) + rained];
@@ -1074,7 +1076,7 @@ public final class HowBigTank {
             long price = ways * house.numbers[PRICE];
             for (int level = 0; level <= size; level++) {
                 int most = Math.min(house.mostPumped(month), size - level);
-                long least = Long.MAX_VALUE;
+                long least = ABOVE_ANY_COST;
                 int chosen = 0;
                 for (int pumped = 0; pumped <= most; pumped++) {
                     long cost = price * pumped + costAhead[level + pumped];

@@ -15,6 +15,8 @@ public final class Language {
     private static final List<String> FACE = List.of("letters", "blank", "fault", "house", "year", "tell", "rule", "as",
         "houseTold", "change", "rain", "run", "month", "never", "let", "cheapest", "share", "sure", "mean", "wise", "hedge",
         "read", "leaks", "image", "restore", "count", "digest");
+    private static final List<String> LIBRARY = List.of("System.arraycopy", "Arrays.copyOf", "Arrays.copyOfRange",
+        "Arrays.fill", "Math.min", "Math.max", "Math.abs", "Math.floorDiv", "Math.floorMod");
     private static int wrong = 0;
 
     private static void complain(String what) {
@@ -26,6 +28,15 @@ public final class Language {
         for (String out : OUT) {
             Matcher m = Pattern.compile(out, Pattern.MULTILINE).matcher(text);
             if (m.find()) complain("ruled out: " + out + " at: " + text.substring(m.start(), Math.min(text.length(), m.start() + 60)));
+        }
+    }
+
+    /** What is named behind a class: the file's own, or a function that LANGUAGE.md lists. */
+    private static void seekLibrary(String text) {
+        Matcher m = Pattern.compile("\\b([A-Z]\\w*)\\.(\\w+)").matcher(text);
+        while (m.find()) {
+            boolean own = text.contains("class " + m.group(1) + " {");
+            if (!own && !LIBRARY.contains(m.group())) complain("not in the list of the library: " + m.group());
         }
     }
 
@@ -57,6 +68,7 @@ public final class Language {
         }
         text = text.replaceAll("(?s)/\\*.*?\\*/", "").replaceAll("//.*", "");
         seekWhatIsOut(text);
+        seekLibrary(text.replaceAll("(?m)^import .*$", ""));
         seekMethods(text);
         System.out.println(wrong == 0 ? "the language is kept to, as far as is seen" : wrong + " breaks of the language");
         if (wrong != 0) System.exit(1);
